@@ -355,7 +355,7 @@ public final class ShadowRegistry {
         checkCurfewHours(hours);
         trial.become(street);
         int fairest = FIRST_HOUR;
-        int fewest = Integer.MAX_VALUE;
+        int fewest = MOST_HOUSES * HOURS_OF_LIGHT + 1;
         for (int from = FIRST_HOUR; from <= LAST_HOUR + 1 - hours; from++) {
             trial.giveCurfew(house, from, from + hours - 1);
             if (trial.lostInAll < fewest) {

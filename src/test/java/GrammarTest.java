@@ -67,6 +67,10 @@ public final class GrammarTest {
         good("house z at 1 high 2; house zz at 2 high 2; house a0 at 3 high 2; house a00 at 4 high 2;");
         good("house laws at 1 high 2; house housea at 2 high 2; house ator at 3 high 2; house maxi at 4 high 2;");
         error(1, "house ~abcdefghijk at 1 high 2;");
+        good("house az at 1 high 2; house a0 at 2 high 2; house b0 at 3 high 2; house aj at 4 high 2;"
+            + "house a9 at 5 high 2; house ba at 6 high 2; house z9 at 7 high 2; house zz at 8 high 2;");
+        error(3, "house zzzzzzzzzz at 1 high 2; law open ~zzzzzzzzz9;");
+        error(3, "house zzzzzzzzzz at 1 high 2; law open ~azzzzzzzzz;");
         error(1, "house a ~at1 high 2;");
         error(1, "house ~1a at 1 high 2;");
         error(1, "~houses a at 1 high 2;");
@@ -171,6 +175,9 @@ public final class GrammarTest {
         error(1, A + "law raise a by ((((((((~(1)))))))));");
         good(A + "law raise a by ((((((((1)))))))) + ((((((((2))))))));");
         error(1, A + "law raise a by --------~-1;");
+        good(A + "law curfew a from ((((((((1)))))))) to ((((((((2))))))));");
+        error(1, A + "law curfew a from ((((((((~(1))))))))) to 2;");
+        error(1, A + "law curfew a from 1 to ((((((((~(2)))))))));");
         good(A + "law raise a by -------- 1 - -------- 2;");
         good(A + "law open a when not not not not not not not not dark a and not [dark a];");
         error(1, A + "law open a when not not not not not not not not ~not dark a;");
