@@ -789,7 +789,9 @@ public final class ShadowRegistry {
             tokens.scan();
             book.empty();
             broken = false;
-            goTo(0);
+            token = 0;
+            start = tokens.startAt(0);
+            now = tokens.kindAt(0);
             flaw = 0;
             flawAt = NONE;
             for (int line = 0; line < MOST_TOKENS && now != Kind.END && !broken; line++) {
@@ -1023,14 +1025,10 @@ public final class ShadowRegistry {
                 return 0;
             }
             long value = tokens.valueAt(token);
-            goTo(token + 1);
+            token++;
+            start = tokens.startAt(token);
+            now = tokens.kindAt(token);
             return value;
-        }
-
-        private void goTo(int next) {
-            token = next;
-            start = tokens.startAt(next);
-            now = tokens.kindAt(next);
         }
 
         private void fail() {
