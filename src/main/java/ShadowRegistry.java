@@ -535,16 +535,16 @@ public final class ShadowRegistry {
         }
 
         Kind kindAt(int token) {
-            return token < 0 || token >= count ? Kind.END : kinds[token];
+            return token < 0 || token >= count || token > MOST_TOKENS ? Kind.END : kinds[token];
         }
 
         int startAt(int token) {
-            return token < 0 || token >= count ? tape.length : starts[token];
+            return token < 0 || token >= count || token > MOST_TOKENS ? tape.length : starts[token];
         }
 
         /** The number that a number is, or that of the signs of a word. */
         long valueAt(int token) {
-            return token < 0 || token >= count ? 0 : values[token];
+            return token < 0 || token >= count || token > MOST_TOKENS ? 0 : values[token];
         }
 
         private int behindBlanks(int place) {

@@ -87,6 +87,21 @@ public final class DayPromisesTest {
         Check.due("lostAfter(30)", late.lostAfter(30), 0);
     }
 
+    static void promise33LawsSeeTheShadowsOfNow() {
+        String[] tests = {"dark b", "lost of c = 3", "cast of a = 9", "worst = 6", "shades a c", "height of b = 2"};
+        for (String test : tests) {
+            ShadowRegistry x = Check.taught(Stage.STREET + "law curfew a from 6 to 18 when " + test + ";");
+            Check.due("lostAfter(1) with " + test, x.lostAfter(1), 0);
+            x.build(0, 0);
+            x.build(1, 0);
+            x.lostAfter(1);
+            x.build(0, 12);
+            x.build(1, 2);
+            Check.due("lostAfter(1) with " + test + " behind another street", x.lostAfter(1), 0);
+            Check.due("daysUntilLight() with " + test, x.daysUntilLight(), 1);
+        }
+    }
+
     static void promise33WithoutHousesIs0() {
         Check.due("lostAfter(30)", new ShadowRegistry().lostAfter(30), 0);
     }
@@ -143,6 +158,13 @@ public final class DayPromisesTest {
         Check.due("daysUntilLight()", x.daysUntilLight(), 4);
         x.passDays(5);
         Check.due("daysUntilLight() behind it", x.daysUntilLight(), 5);
+    }
+
+    static void promise34LawsSeeTheShadowsOfNow() {
+        ShadowRegistry x = Check.taught(Stage.STREET + "law curfew a from 6 to 18 when dark b and cast of a = 9;");
+        Check.due("daysUntilLight()", x.daysUntilLight(), 1);
+        ShadowRegistry y = Check.taught(Stage.STREET + "law curfew a from 6 to 18 when not dark b or cast of a < 9;");
+        Check.due("daysUntilLight()", y.daysUntilLight(), -1);
     }
 
     static void promise34LightWithinADayDoesNotCount() {
@@ -236,6 +258,28 @@ public final class DayPromisesTest {
         Check.due("fairCurfew(0, 1)", x.fairCurfew(0, 1), 17);
     }
 
+    /** a shades c at 18 alone; d would shade a's wall, if that were low, from 13 to 17. */
+    private static ShadowRegistry guarded() {
+        ShadowRegistry x = Check.taught("house a at 10 high 6; house c at 25 high 0; house d at 9 high 6;");
+        x.setCurfew(2, 18, 18);
+        return x;
+    }
+
+    /** guarded() turned round: a shades c at 6 alone; d would shade a's wall, if that were low, from 7 to 11. */
+    private static ShadowRegistry guardedInTheMorning() {
+        ShadowRegistry x = Check.taught("house a at 89 high 6; house c at 74 high 0; house d at 90 high 6;");
+        x.setCurfew(2, 6, 6);
+        return x;
+    }
+
+    static void promise35AllItsHoursAreHoursOfLight() {
+        Check.due("fairCurfew(0, 1): 18", guarded().fairCurfew(0, 1), 18);
+        Check.due("fairCurfew(0, 2): 17 costs what 18 spares", guarded().fairCurfew(0, 2), 6);
+        Check.due("fairCurfew(0, 1): 6", guardedInTheMorning().fairCurfew(0, 1), 6);
+        Check.due("fairCurfew(0, 2): 7 costs what 6 spares", guardedInTheMorning().fairCurfew(0, 2), 6);
+        Check.due("fairCurfew(0, 3): from 12 on nothing is spared", guardedInTheMorning().fairCurfew(0, 3), 12);
+    }
+
     static void promise35ChangesNothing() {
         for (int hours = 1; hours <= 13; hours += 6) {
             int many = hours;
@@ -275,6 +319,13 @@ public final class DayPromisesTest {
         Check.due("fairestWall(3): the curfew that it has", x.fairestWall(3), -1);
         Check.due("fairestWall(2): a worse one", x.fairestWall(2), -1);
         Check.due("fairestWall(4): one hour less", x.fairestWall(4), 0);
+    }
+
+    static void promise36AllHoursOfACurfewAreHoursOfLight() {
+        Check.due("fairestWall(1): 18", guarded().fairestWall(1), 0);
+        Check.due("fairestWall(2): 17 costs what 18 spares", guarded().fairestWall(2), -1);
+        Check.due("fairestWall(1): 6", guardedInTheMorning().fairestWall(1), 0);
+        Check.due("fairestWall(2): 7 costs what 6 spares", guardedInTheMorning().fairestWall(2), -1);
     }
 
     static void promise36OneHourLessIsEnough() {

@@ -194,7 +194,8 @@ public final class ErrorsTest {
         Check.error(4, sixteen + "~law open b;");
         Check.error(2, sixteen + "house ~a at 2 high 3; law open a;");
         Check.error(3, A + Stage.repeated("law open a;", 15) + "law open ~b; law open a;");
-        Check.error(4, Stage.twelveHouses() + Stage.repeated("law open a0;", 16) + "~law open a0; house b at 1 high 2;");
+        Check.error(4, Stage.twelveHouses() + Stage.repeated("law open a0;", 16)
+            + "~law open a0; house b at 1 high 2;");
     }
 
     static void errorsAtOneTokenTellTheSmallestNumber() {
@@ -211,7 +212,8 @@ public final class ErrorsTest {
     // ---- Numbers of houses and laws
 
     static void housesAreNumberedFrom0InTheirOrder() {
-        ShadowRegistry x = Check.taught("house z at 50 high 1; law open z; house a at 40 high 2; house m at 60 high 3;");
+        ShadowRegistry x = Check.taught("house z at 50 high 1; law open z; house a at 40 high 2;"
+            + "house m at 60 high 3;");
         int[] places = {50, 40, 60};
         for (int house = 0; house < 3; house++) {
             Check.due("placeOf " + house, x.placeOf(house), places[house]);

@@ -68,7 +68,8 @@ public final class HourPromisesTest {
             {36, 30, 24, 18, 12, 6, 0, 6, 12, 18, 24, 30, 36},
             {90, 75, 60, 45, 30, 15, 0, 15, 30, 45, 60, 75, 90},
             {0, 0, 0, 0, 0, 0, 0, 0, 0, 0, 0, 0, 0}};
-        ShadowRegistry x = Check.taught("house a at 99 high 1; house b at 0 high 12; house c at 1 high 30; house d at 2 high 0;");
+        ShadowRegistry x = Check.taught("house a at 99 high 1; house b at 0 high 12; house c at 1 high 30;"
+            + "house d at 2 high 0;");
         for (int house = 0; house < 4; house++) {
             for (int hour = 6; hour <= 18; hour++) {
                 Check.due("shadowOf " + house + " at " + hour, x.shadowOf(house, hour), due[house][hour - 6]);
@@ -262,6 +263,14 @@ public final class HourPromisesTest {
             int due = hour < 13 || hour > 18 ? 0 : hour < 16 ? 1 : 2;
             Check.due("housesInTheDark at " + hour, x.housesInTheDark(hour), due);
         }
+    }
+
+    static void promise27CountsTheFirstAndTheLastHouse() {
+        ShadowRegistry x = Check.taught("house a at 10 high 0; house b at 11 high 30; house c at 12 high 0;");
+        Check.due("housesInTheDark(6)", x.housesInTheDark(6), 1);
+        Check.due("isInTheDark(0, 6)", x.isInTheDark(0, 6), true);
+        Check.due("housesInTheDark(18)", x.housesInTheDark(18), 1);
+        Check.due("isInTheDark(2, 18)", x.isInTheDark(2, 18), true);
     }
 
     static void promise27CountsAHouseInSeveralShadowsOnce() {

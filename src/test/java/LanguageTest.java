@@ -2,7 +2,8 @@
 public final class LanguageTest {
     private static final String A = "house a at 1 high 2;";
     private static final String[] KEYWORDS = {"house", "at", "high", "law", "curfew", "from", "to", "open", "raise",
-        "by", "when", "day", "lost", "cast", "height", "worst", "of", "shades", "dark", "not", "and", "or", "min", "max"};
+        "by", "when", "day", "lost", "cast", "height", "worst", "of", "shades", "dark", "not", "and", "or", "min",
+        "max"};
     /** A registry with each kind of token, one in each row. */
     private static final String[] TOKENS = {"house", "a", "at", "1", "high", "2", ";", "house", "b", "at", "3", "high",
         "0", ";", "law", "curfew", "a", "from", "-", "1", "+", "(", "day", "*", "worst", ")", "to", "min", "(", "12",
@@ -160,6 +161,19 @@ public final class LanguageTest {
         Check.error(3, "house aa at 1 high 2; law open ~a;");
         Check.error(3, "house a at 1 high 2; law open ~aa;");
         Check.error(2, "house zzzzzzzzzz at 1 high 2; house ~zzzzzzzzzz at 2 high 2;");
+    }
+
+    static void languageWordsOfOtherLettersAndDigitsAreOthers() {
+        String signs = "abcdefghijklmnopqrstuvwxyz0123456789";
+        for (int i = 0; i < signs.length(); i++) {
+            ShadowRegistry x = new ShadowRegistry();
+            for (int other = 0; other < signs.length(); other++) {
+                String name = "x" + signs.charAt(i);
+                String called = "x" + signs.charAt(other);
+                Check.tape(x, "house " + name + " at 1 high 2; law open " + called + ";");
+                Check.due("teach() of " + name + " and " + called, x.teach(), i == other ? 0 : 3);
+            }
+        }
     }
 
     static void languageWordsBeginWithALetterAToZ() {

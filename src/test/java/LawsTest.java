@@ -57,8 +57,8 @@ public final class LawsTest {
     }
 
     static void aDayALawWhoseTestDoesNotHoldDoesNothing() {
-        ShadowRegistry x = Check.taught(Stage.STREET + "law raise a by 1 when 1 > 2; law curfew a from 6 to 18 when 1 > 2;"
-            + "law open b when 1 > 2;");
+        ShadowRegistry x = Check.taught(Stage.STREET + "law raise a by 1 when 1 > 2;"
+            + "law curfew a from 6 to 18 when 1 > 2; law open b when 1 > 2;");
         x.setCurfew(1, 7, 8);
         Check.due("passDays(30)", x.passDays(30), 0);
         Check.due("heightOf(0)", x.heightOf(0), 12);
@@ -257,7 +257,8 @@ public final class LawsTest {
     }
 
     static void valuesDayCountsTheDaysThatWentBy() {
-        ShadowRegistry x = Check.taught(Stage.STREET + "law raise c by 1 when day = 29; law raise c by 1 when day = 31;");
+        ShadowRegistry x = Check.taught(Stage.STREET
+            + "law raise c by 1 when day = 29; law raise c by 1 when day = 31;");
         Check.due("passDays(29)", x.passDays(29), 0);
         Check.due("passDays(1), the 30th", x.passDays(1), 1);
         Check.due("passDays(1), the 31st", x.passDays(1), 0);

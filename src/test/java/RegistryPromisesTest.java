@@ -197,14 +197,25 @@ public final class RegistryPromisesTest {
         Check.due("worstHouse() of ten", Check.taught(CANYON).worstHouse(), 1);
     }
 
-    static void promise12CanBeTheFirstAndTheLastHouse() {
-        Check.due("worstHouse() first", Check.taught("house b at 14 high 0; house a at 10 high 12;").worstHouse(), 0);
+    static void promise12CanBeEachOfTwelve() {
+        for (int house = 0; house < 12; house++) {
+            // a wall of 4 is 1 high 9 places away at 6 and at 18, and no more anywhere else
+            ShadowRegistry x = lowTwelve();
+            int wall = house == 0 ? 1 : house - 1;
+            x.build(wall, 4);
+            x.setCurfew(wall, house == 0 ? 12 : 6, house == 0 ? 18 : 12);
+            Check.due("worstHouse()", x.worstHouse(), house);
+            Check.due("allHoursLost()", x.allHoursLost(), 1);
+        }
+    }
+
+    /** Twelve houses, each 9 places from the next one, with walls of 0. */
+    private static ShadowRegistry lowTwelve() {
         ShadowRegistry x = Check.taught(Stage.twelveHouses());
         for (int house = 0; house < 12; house++) {
-            x.build(house, house == 10 ? 30 : 0);
+            x.build(house, 0);
         }
-        x.setCurfew(10, 6, 11);
-        Check.due("worstHouse() of twelve", x.worstHouse(), 11);
+        return x;
     }
 
     // ---- Promise 13: darkestWall
@@ -228,7 +239,16 @@ public final class RegistryPromisesTest {
         Check.due("darkestWall() of two that cast 60 each", Check.taught(CANYON).darkestWall(), 0);
     }
 
-    static void promise13CanBeTheLastHouse() {
+    static void promise13CanBeEachOfTwelve() {
+        for (int house = 0; house < 12; house++) {
+            ShadowRegistry x = lowTwelve();
+            x.build(house, 4);
+            Check.due("darkestWall()", x.darkestWall(), house);
+            Check.due("castBy " + house, x.castBy(house), house == 0 || house == 11 ? 1 : 2);
+        }
+    }
+
+    static void promise13AnHourMoreIsEnough() {
         ShadowRegistry x = Check.taught(CANYON);
         x.setCurfew(0, 18, 18);
         Check.due("darkestWall()", x.darkestWall(), 11);

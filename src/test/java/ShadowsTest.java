@@ -85,7 +85,8 @@ public final class ShadowsTest {
     }
 
     static void shadowsFallToOneSideAlone() {
-        ShadowRegistry x = Check.taught("house a at 0 high 0; house b at 1 high 30; house c at 99 high 30; house d at 98 high 0;");
+        ShadowRegistry x = Check.taught("house a at 0 high 0; house b at 1 high 30; house c at 99 high 30;"
+            + "house d at 98 high 0;");
         Check.due("hoursLostTo(0, 1) in the west", x.hoursLostTo(0, 1), 6);
         Check.due("shades(1, 0, 11)", x.shades(1, 0, 11), true);
         Check.due("shades(1, 0, 13)", x.shades(1, 0, 13), false);

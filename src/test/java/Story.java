@@ -1,4 +1,4 @@
-/** All that an object answers from now on: two objects with the same story are in the same state, as far as one can see. */
+/** All that an object answers from now on: two objects with the same story are, as far as one can see, in one state. */
 final class Story {
     private Story() {
     }
@@ -32,7 +32,7 @@ final class Story {
         tell(story, "fairestWall", x.fairestWall(2));
     }
 
-    /** How many bytes the tape has: feed tells it, or, where it is too full for that, the greatest trim that is taken. */
+    /** How many bytes the tape has: feed tells it, or, if it is too full for that, the greatest trim that is taken. */
     private static void tellTape(ShadowRegistry x, StringBuilder story) {
         String fed = Check.outcome(() -> x.feed(0x20202020, 0x0a0a0a0a, 0x20202020, 0x0a0a0a0a, 0x20202020));
         story.append(" feed ").append(fed);

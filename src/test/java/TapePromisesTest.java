@@ -295,6 +295,23 @@ public final class TapePromisesTest {
         Check.due("passDays(1)", x.passDays(1), 1);
     }
 
+    static void promise4OfManyTextsInARowEachIsReadWhole() {
+        // 399 tokens: nearly all of them are values and signs that are reckoned
+        String text = "house a at 1 high 2;law raise a by 1+2*(" + Stage.repeated("1+", 178)
+            + "1)-(day+1)*179 when day<" + Stage.repeated("1-1+", 3) + "9;";
+        ShadowRegistry x = new ShadowRegistry();
+        for (int turn = 0; turn < 8; turn++) {
+            Check.tape(x, text + (turn % 2 == 0 ? "" : "?"));
+            Check.due("teach() in turn " + turn, x.teach(), turn % 2 == 0 ? 0 : 1);
+        }
+        // by 1 + 2 * 179 - 179 on the first day, and by 1 on the second
+        Check.due("passDays(1)", x.passDays(1), 1);
+        Check.due("heightOf(0)", x.heightOf(0), 30);
+        x.build(0, 7);
+        Check.due("passDays(1)", x.passDays(1), 1);
+        Check.due("heightOf(0)", x.heightOf(0), 8);
+    }
+
     // ---- Promise 5: errorAt
 
     static void promise5IsMinus1AheadOfAnyTeach() {
