@@ -1,3 +1,4 @@
+import java.io.IOException;
 import java.lang.reflect.Executable;
 import java.lang.reflect.Field;
 import java.lang.reflect.Method;
@@ -26,24 +27,27 @@ public final class FaceTest {
         "int setCurfew int int int" + INDEX + ARGUMENT, "int endCurfew int" + INDEX + STATE,
         "int build int int" + INDEX + ARGUMENT, "int move int int" + INDEX + ARGUMENT + STATE,
         "int passDays int" + ARGUMENT, "int lostAfter int" + ARGUMENT, "int daysUntilLight",
-        "int fairCurfew int int" + INDEX + ARGUMENT, "int fairestWall int" + ARGUMENT, "double meanLost", "long digest"};
+        "int fairCurfew int int" + INDEX + ARGUMENT, "int fairestWall int" + ARGUMENT, "double meanLost",
+        "long digest"};
     private static final String[] RULED_OUT = {"import ", "package ", "->", "::", "synchronized", "assert", "finally",
         "catch", "System.out", "System.in", "nanoTime", "currentTimeMillis", "Random", "Exact(", "ordinal", "hashCode",
         "toString", "getMessage", "protected ", "static {", "@"};
 
-    public static void main(String[] args) throws Exception {
-        face();
-        insides();
-        file();
-        Check.end("FaceTest");
+    public static void main(String[] args) {
+        Check.runAll(FaceTest.class);
     }
 
-    private static void face() {
+    static void thePublicFaceIsAFinalClassWithOneConstructor() {
         Class<?> made = ShadowRegistry.class;
         Check.due("the class is public and final", made.getModifiers(), Modifier.PUBLIC | Modifier.FINAL);
         Check.due("constructors", made.getDeclaredConstructors().length, 1);
         Check.due("its constructor is public", made.getConstructors().length, 1);
         Check.due("its constructor takes nothing", made.getConstructors()[0].getParameterCount(), 0);
+        Check.due("its constructor throws nothing", made.getConstructors()[0].getExceptionTypes().length, 0);
+    }
+
+    static void thePublicFaceHasTheMethodsAndExceptionsOfTheDocumentAndNoOthers() {
+        Class<?> made = ShadowRegistry.class;
         Set<String> due = new TreeSet<>(List.of(FACE));
         Set<String> found = new TreeSet<>();
         for (Method method : made.getDeclaredMethods()) {
@@ -69,7 +73,7 @@ public final class FaceTest {
         return text.toString();
     }
 
-    private static void insides() {
+    static void theClassesInsideAreFewAndNotPublic() {
         Set<String> names = new TreeSet<>();
         for (String line : FACE) {
             names.add(line.split(" ")[1]);
@@ -101,7 +105,7 @@ public final class FaceTest {
         Check.due(executable + " takes at most seven", executable.getParameterCount() <= 7, true);
     }
 
-    private static void file() throws Exception {
+    static void theFileKeepsToThePartOfJavaThatIsLeft() throws IOException {
         List<String> lines = Files.readAllLines(SOURCE);
         int begin = 0;
         String end = "none";
@@ -112,7 +116,8 @@ public final class FaceTest {
             for (int at = 0; at < line.length(); at++) {
                 Check.due(what + " is of plain signs", line.charAt(at) >= 32 && line.charAt(at) < 127, true);
             }
-            boolean comment = line.trim().startsWith("//") || line.trim().startsWith("/*") || line.trim().startsWith("*");
+            String begun = line.trim();
+            boolean comment = begun.startsWith("//") || begun.startsWith("/*") || begun.startsWith("*");
             for (String word : RULED_OUT) {
                 Check.due(what + " holds " + word, !comment && line.contains(word), false);
             }

@@ -176,6 +176,22 @@ public final class LanguageTest {
         }
     }
 
+    static void languageWordsThatANumberCouldMixUpAreOthers() {
+        String[] names = {"az", "a0", "b0", "aj", "a9", "ba", "z9", "zz", "dl", "z", "b", "aa"};
+        StringBuilder text = new StringBuilder();
+        for (int i = 0; i < names.length; i++) {
+            text.append("house ").append(names[i]).append(" at ").append(i).append(" high 2;");
+        }
+        for (int i = 0; i < names.length; i++) {
+            text.append("law raise ").append(names[i]).append(" by ").append(i).append(";");
+        }
+        ShadowRegistry x = Check.taught(text.toString());
+        Check.due("passDays(1)", x.passDays(1), names.length - 1);
+        for (int i = 0; i < names.length; i++) {
+            Check.due("heightOf " + names[i], x.heightOf(i), 2 + i);
+        }
+    }
+
     static void languageWordsBeginWithALetterAToZ() {
         for (int sign = 0; sign < 256; sign++) {
             String text = "house " + (char) sign + "0 at 1 high 2;";
