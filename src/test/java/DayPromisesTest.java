@@ -225,7 +225,7 @@ public final class DayPromisesTest {
     }
 
     static void promise35OfSeveralIsTheSmallest() {
-        Check.due("fairCurfew(1, 1) of a wall that shades none", street().fairCurfew(2, 1), 6);
+        Check.due("fairCurfew(2, 1) of a wall that shades none", street().fairCurfew(2, 1), 6);
         Check.due("fairCurfew(0, 1) of a house alone", Stage.one().fairCurfew(0, 1), 6);
         Check.due("fairCurfew(0, 13) of a house alone", Stage.one().fairCurfew(0, 13), 6);
     }

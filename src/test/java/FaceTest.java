@@ -9,6 +9,8 @@ import java.util.ArrayList;
 import java.util.List;
 import java.util.Set;
 import java.util.TreeSet;
+import java.util.regex.Matcher;
+import java.util.regex.Pattern;
 
 /** The public face of the document, and those rules of LANGUAGE.md that can be seen in the class and its file. */
 public final class FaceTest {
@@ -29,6 +31,57 @@ public final class FaceTest {
         "int passDays int" + ARGUMENT, "int lostAfter int" + ARGUMENT, "int daysUntilLight",
         "int fairCurfew int int" + INDEX + ARGUMENT, "int fairestWall int" + ARGUMENT, "double meanLost",
         "long digest"};
+    /** Each call as the document tells it, under the heading that stands ahead of it. */
+    private static final String[] INTERFACE = {
+        "public ShadowRegistry()",
+        "// ---- the language",
+        "public int feed(int a, int b, int c, int d, int e) throws IllegalStateException",
+        "public int trim(int n) throws IllegalArgumentException",
+        "public int teach()",
+        "public int errorAt()",
+        "// ---- the registry",
+        "public int houses()",
+        "public int laws()",
+        "public int days()",
+        "public int lawsCarriedOut()",
+        "public int allHoursLost()",
+        "public int lightHouses()",
+        "public int worstHouse() throws IllegalStateException",
+        "public int darkestWall() throws IllegalStateException",
+        "// ---- houses",
+        "public int placeOf(int house) throws IndexOutOfBoundsException",
+        "public int heightOf(int house) throws IndexOutOfBoundsException",
+        "public int hoursLost(int house) throws IndexOutOfBoundsException",
+        "public int castBy(int house) throws IndexOutOfBoundsException",
+        "public boolean hasCurfew(int house) throws IndexOutOfBoundsException",
+        "public int curfewFrom(int house) throws IndexOutOfBoundsException, IllegalStateException",
+        "public int curfewTo(int house) throws IndexOutOfBoundsException, IllegalStateException",
+        "public int hoursLostTo(int house, int by) throws IndexOutOfBoundsException",
+        "// ---- hours",
+        "public int heightAt(int house, int hour) throws IndexOutOfBoundsException",
+        "public int shadowOf(int house, int hour) throws IndexOutOfBoundsException",
+        "public boolean shades(int house, int other, int hour) throws IndexOutOfBoundsException",
+        "public boolean isInTheDark(int house, int hour) throws IndexOutOfBoundsException",
+        "public int shadedBy(int house, int hour) throws IndexOutOfBoundsException, IllegalStateException",
+        "public int housesInTheDark(int hour) throws IndexOutOfBoundsException",
+        "// ---- by hand",
+        "public int setCurfew(int house, int from, int to) throws IndexOutOfBoundsException, IllegalArgumentException",
+        "public int endCurfew(int house) throws IndexOutOfBoundsException, IllegalStateException",
+        "public int build(int house, int height) throws IndexOutOfBoundsException, IllegalArgumentException",
+        "public int move(int house, int place)"
+            + " throws IndexOutOfBoundsException, IllegalArgumentException, IllegalStateException",
+        "// ---- days and what would be",
+        "public int passDays(int days) throws IllegalArgumentException",
+        "public int lostAfter(int days) throws IllegalArgumentException",
+        "public int daysUntilLight()",
+        "public int fairCurfew(int house, int hours) throws IndexOutOfBoundsException, IllegalArgumentException",
+        "public int fairestWall(int hours) throws IllegalArgumentException",
+        "public double meanLost()",
+        "public long digest()"};
+    private static final Pattern CALL = Pattern.compile("\\b([A-Z]\\w*\\.\\w+)\\(");
+    private static final Pattern OBJECT = Pattern.compile("new (\\w+)\\(");
+    private static final Pattern THROW = Pattern.compile(
+        " +throw new (IllegalState|IllegalArgument|IndexOutOfBounds)Exception\\(\"[a-z0-9 ]+\"\\);");
     private static final String[] RULED_OUT = {"import ", "package ", "->", "::", "synchronized", "assert", "finally",
         "catch", "System.out", "System.in", "nanoTime", "currentTimeMillis", "Random", "Exact(", "ordinal", "hashCode",
         "toString", "getMessage", "protected ", "static {", "@"};
@@ -60,6 +113,23 @@ public final class FaceTest {
         for (Field field : made.getDeclaredFields()) {
             Check.due(field + " is private", Modifier.isPrivate(field.getModifiers()), true);
         }
+    }
+
+    static void thePublicFaceStandsInTheFileAsInTheDocument() throws IOException {
+        List<String> found = new ArrayList<>();
+        String begun = "";
+        for (String line : Files.readAllLines(SOURCE)) {
+            if (line.startsWith("    // ---- ") && !line.endsWith("share")) {
+                found.add(line.trim());
+            } else if (line.startsWith("    public ") || !begun.isEmpty()) {
+                begun = begun + (begun.isEmpty() ? "" : " ") + line.trim();
+                if (begun.endsWith(" {")) {
+                    found.add(begun.substring(0, begun.length() - 2));
+                    begun = "";
+                }
+            }
+        }
+        Check.dueText("the face", String.join("\n", found), String.join("\n", INTERFACE));
     }
 
     private static String signature(Method method) {
@@ -103,6 +173,25 @@ public final class FaceTest {
 
     private static void takesSeven(Executable executable) {
         Check.due(executable + " takes at most seven", executable.getParameterCount() <= 7, true);
+    }
+
+    static void theFileCallsNoLibraryButWhatIsLeft() throws IOException {
+        Set<String> left = new TreeSet<>(List.of("Math.abs", "Math.max", "Math.min", "Integer.bitCount",
+            "System.arraycopy", "Kind.values", "Kind.lengthened"));
+        Set<String> made = new TreeSet<>(List.of("Tape", "Tokens", "Parser", "Law", "Book", "Reckoner", "Street"));
+        for (String line : Files.readAllLines(SOURCE)) {
+            Matcher call = CALL.matcher(line);
+            while (call.find()) {
+                Check.due(call.group(1) + " is left, in " + line, left.contains(call.group(1)), true);
+            }
+            Matcher object = OBJECT.matcher(line);
+            while (object.find() && !line.contains("throw ")) {
+                Check.due(object.group(1) + " is of the file, in " + line, made.contains(object.group(1)), true);
+            }
+            if (line.contains("throw ")) {
+                Check.due("this throws one of three: " + line, THROW.matcher(line).matches(), true);
+            }
+        }
     }
 
     static void theFileKeepsToThePartOfJavaThatIsLeft() throws IOException {
